@@ -1,0 +1,113 @@
+import java.lang.reflect.Constructor;
+import java.lang.reflect.Field;
+import java.lang.reflect.Method;
+import java.lang.reflect.Modifier;
+import java.nio.file.Files;
+import java.nio.file.Path;
+import java.util.HashSet;
+import java.util.Set;
+import java.util.TreeSet;
+import java.util.regex.Matcher;
+import java.util.regex.Pattern;
+
+/** The face of the class, and those rules of LANGUAGE.md that can be seen without reading. */
+public final class LanguageTest {
+    private static final String[] FACE = {
+        "int row(int,int)", "int lay(int,int,int)", "int at(int,int)", "int tear(int)", "int copy(int,int,int,int,int)",
+        "int build(int,int)", "int put(int,int)", "int undo()", "int keep(int)", "int on(int)", "int item(int)",
+        "int shape(int)", "int entry(int,int,int)", "int least(int,int)", "int kth(int,int,int)", "int left(int)",
+        "int right(int)", "int owns(int)", "long sum()", "int parent(int)", "int depth(int)", "int size(int)",
+        "int above(int,int)", "int alike(int,int,int)", "int tree(int)", "int meet(int,int)", "int apart(int,int)",
+        "int up(int,int)", "int node(int,int)", "int asked()", "int count(int)", "int finding()", "int findings(int)",
+        "long digest()"};
+    private static final String[] RULED_OUT = {
+        "throw", "throws", "try", "catch", "finally", "synchronized", "assert", "double", "float", "->", "::", "System\\.(?!arraycopy)",
+        "Exact", "protected", "hashCode", "equals", "toString", "package", "Thread", "Random", "Object"};
+
+    private LanguageTest() {
+    }
+
+    public static void main(String[] args) throws Exception {
+        Expect expect = new Expect();
+        face(expect);
+        classesInside(expect);
+        words(expect, withoutComments(Files.readString(Path.of(args[0]))));
+        expect.end();
+    }
+
+    private static void face(Expect expect) {
+        Class<?> c = ShapeMinima.class;
+        expect.holds("public and final", Modifier.isPublic(c.getModifiers()) && Modifier.isFinal(c.getModifiers()));
+        Set<String> methods = new TreeSet<>();
+        Set<String> publicNames = new HashSet<>();
+        for (Method m : c.getDeclaredMethods()) {
+            if (!Modifier.isPrivate(m.getModifiers())) {
+                methods.add(told(m));
+                publicNames.add(m.getName());
+                expect.holds("public: " + m, m.getModifiers() == Modifier.PUBLIC);
+            }
+        }
+        for (Method m : c.getDeclaredMethods()) {
+            expect.holds("no public name for " + m, !Modifier.isPrivate(m.getModifiers()) || !publicNames.contains(m.getName()));
+        }
+        expect.holds("the face is the document's: " + methods, methods.equals(new TreeSet<>(java.util.List.of(FACE))));
+        Constructor<?>[] constructors = c.getDeclaredConstructors();
+        expect.holds("one public constructor", constructors.length == 1 && constructors[0].getParameterCount() == 0
+            && Modifier.isPublic(constructors[0].getModifiers()));
+        Set<String> constants = new TreeSet<>();
+        for (Field f : c.getDeclaredFields()) {
+            if (!Modifier.isPrivate(f.getModifiers())) {
+                constants.add(f.getName());
+            }
+            expect.holds("static is final: " + f, !Modifier.isStatic(f.getModifiers()) || Modifier.isFinal(f.getModifiers()));
+        }
+        expect.holds("constants: " + constants, constants.equals(Set.of("BAD", "STATE", "FINDING", "NONE")));
+    }
+
+    private static String told(Method m) {
+        StringBuilder s = new StringBuilder(m.getReturnType().getName()).append(' ').append(m.getName()).append('(');
+        for (Class<?> p : m.getParameterTypes()) {
+            s.append(s.charAt(s.length() - 1) == '(' ? "" : ",").append(p.getName());
+        }
+        return s.append(')').toString();
+    }
+
+    private static void classesInside(Expect expect) {
+        Set<String> publicNames = new HashSet<>();
+        for (Method m : ShapeMinima.class.getMethods()) {
+            publicNames.add(m.getName());
+        }
+        Class<?>[] inside = ShapeMinima.class.getDeclaredClasses();
+        expect.holds("at most twelve classes", inside.length <= 11);
+        for (Class<?> c : inside) {
+            expect.holds("static: " + c, Modifier.isStatic(c.getModifiers()));
+            expect.holds("not public: " + c, (c.getModifiers() & (Modifier.PUBLIC | Modifier.PROTECTED)) == 0);
+            expect.holds("at most twenty fields: " + c, c.getDeclaredFields().length <= 20);
+            for (Method m : c.getDeclaredMethods()) {
+                expect.holds("at most seven parameters: " + m, m.getParameterCount() <= 7);
+                expect.holds("no name of the face: " + m, !publicNames.contains(m.getName()));
+            }
+        }
+    }
+
+    private static String withoutComments(String source) {
+        return source.replaceAll("(?s)/\\*.*?\\*/", " ").replaceAll("//[^\n]*", " ");
+    }
+
+    private static void words(Expect expect, String code) {
+        for (String word : RULED_OUT) {
+            boolean plain = Character.isLetter(word.charAt(0)) && !word.contains("\\");
+            Matcher m = Pattern.compile(plain ? "\\b" + word + "\\b" : word).matcher(code);
+            expect.holds("no " + word, !m.find());
+        }
+        Matcher imports = Pattern.compile("import ([^;]*);").matcher(code);
+        while (imports.find()) {
+            expect.holds("import " + imports.group(1), imports.group(1).equals("java.util.Arrays"));
+        }
+        for (char sign : code.toCharArray()) {
+            if (sign > 126) {
+                expect.holds("plain signs alone", false);
+            }
+        }
+    }
+}
