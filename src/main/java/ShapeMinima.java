@@ -478,7 +478,7 @@ public final class ShapeMinima {
         }
 
         boolean lacksSome(int from, int n) {
-            // i + n might pass the largest int; many - from, behind the test of from, cannot.
+            // from + n might pass the largest int; many - from, behind the test of from, cannot.
             return from < 0 || n < 0 || n > many - from;
         }
 
