@@ -94,7 +94,7 @@ final class Model {
         return many;
     }
 
-    private static BigInteger shapeOf(List<Integer> some) {
+    static BigInteger shapeOf(List<Integer> some) {
         BigInteger number = BigInteger.ONE;
         ArrayDeque<Integer> pile = new ArrayDeque<>();
         for (int x : some) {
@@ -210,7 +210,7 @@ final class Model {
 
     // ---- 3 least places
 
-    private static int leastOf(List<Integer> some, int i, int j) {
+    static int leastOf(List<Integer> some, int i, int j) {
         int least = Integer.MAX_VALUE;
         for (int x : some.subList(i, j + 1)) least = Math.min(least, x);
         return i + some.subList(i, j + 1).indexOf(least);

@@ -1,13 +1,5 @@
 /** For each promise of the document: ordinary inputs, edges, wrong inputs. */
-public final class PromisesTest {
-    private static final int BAD = -1, STATE = -2, FINDING = -3, NONE = -9;
-    private static final int NOTHING = 1, BEYOND = 2, SIZE = 3, UNLIKE = 4;
-    private static final int MIN = Integer.MIN_VALUE, MAX = Integer.MAX_VALUE;
-    private static final int[] ITEMS = {5, 3, 8, 3, 9, 1, 1, 7, 2, 6, 2};
-    private static final int[] PARENTS = {3, 0, 0, -1, 3, 4, 4, 5, 5, 1};
-
-    private static final Expect EXPECT = new Expect();
-
+public final class PromisesTest extends Cases {
     private PromisesTest() {
     }
 
@@ -49,42 +41,6 @@ public final class PromisesTest {
         promise34Findings();
         promise35Digest();
         EXPECT.end();
-    }
-
-    private static void due(String call, long got, long want) {
-        EXPECT.due(call, got, want);
-    }
-
-    /** A call that is refused by a finding: which, and that it was counted once. */
-    private static void found(String call, ShapeMinima x, int before, long got, int which) {
-        due(call, got, FINDING);
-        due(call + ", finding()", x.finding(), which);
-        due(call + ", findings()", x.findings(which), before + 1);
-    }
-
-    private static ShapeMinima withRow(int r, int... ints) {
-        ShapeMinima x = new ShapeMinima();
-        layAll(x, r, ints);
-        return x;
-    }
-
-    private static void layAll(ShapeMinima x, int r, int... ints) {
-        x.row(r, ints.length);
-        for (int i = 0; i < ints.length; i++) {
-            x.lay(r, i, ints[i]);
-        }
-    }
-
-    private static ShapeMinima withItems(int b, int... ints) {
-        ShapeMinima x = withRow(0, ints);
-        x.build(0, b);
-        return x;
-    }
-
-    private static ShapeMinima withTree(int... parents) {
-        ShapeMinima x = withRow(2, parents);
-        x.tree(2);
-        return x;
     }
 
     private static void constants() {
@@ -204,13 +160,6 @@ public final class PromisesTest {
         found("MIN", x, 9, x.copy(0, MIN, 3, MIN, MIN), BEYOND);
         sameRow("refused, as before", x, 0, 2, 3, 4, 5, 8, 9);
         sameRow("refused, as before", x, 3, 7, 8, 9);
-    }
-
-    private static void sameRow(String what, ShapeMinima x, int r, int... ints) {
-        for (int i = 0; i < ints.length; i++) {
-            due(what + ": at(" + r + ", " + i + ")", x.at(r, i), 1);
-            due(what + ": place " + i, x.asked(), ints[i]);
-        }
     }
 
     private static void promise7Build() {
@@ -730,12 +679,6 @@ public final class PromisesTest {
         due("asked() behind those, too", x.asked(), 5);
     }
 
-    private static void counts(String what, ShapeMinima x, int... want) {
-        for (int k = 0; k < want.length; k++) {
-            due(what + ": count(" + k + ")", x.count(k), want[k]);
-        }
-    }
-
     private static void promise32Count() {
         ShapeMinima x = withItems(3, ITEMS);
         counts("3 wide", x, 11, 3, 4, 4, 3, 4, 180, 0, 1, 0);
@@ -788,14 +731,6 @@ public final class PromisesTest {
         due("findings(5)", x.findings(5), BAD);
         due("findings(MIN)", x.findings(MIN), BAD);
         due("finding() as before", x.finding(), NOTHING);
-    }
-
-    private static long fold(int... all) {
-        long h = 17;
-        for (int v : all) {
-            h = 31 * h + v;
-        }
-        return h;
     }
 
     private static void promise35Digest() {
