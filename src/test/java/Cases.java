@@ -1,3 +1,5 @@
+import java.util.ArrayList;
+import java.util.List;
 import java.util.function.Supplier;
 import java.util.function.ToLongFunction;
 
@@ -131,6 +133,28 @@ abstract class Cases {
             ints[k] = first + k * step;
         }
         return ints;
+    }
+
+    /** All lists of n numbers 0 .. n - 1. */
+    static List<List<Integer>> allOf(int n) {
+        List<List<Integer>> all = new ArrayList<>();
+        all.add(List.of());
+        for (int k = 0; k < n; k++) {
+            List<List<Integer>> longer = new ArrayList<>();
+            for (List<Integer> some : all) {
+                for (int v = 0; v < n; v++) {
+                    List<Integer> more = new ArrayList<>(some);
+                    more.add(v);
+                    longer.add(more);
+                }
+            }
+            all = longer;
+        }
+        return all;
+    }
+
+    static int[] ints(List<Integer> some) {
+        return some.stream().mapToInt(v -> v).toArray();
     }
 
     /** What digest() makes of these. */

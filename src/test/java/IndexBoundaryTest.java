@@ -173,28 +173,6 @@ public final class IndexBoundaryTest extends Cases {
         }
     }
 
-    /** All lists of n numbers 0 .. n - 1. */
-    private static List<List<Integer>> allOf(int n) {
-        List<List<Integer>> all = new ArrayList<>();
-        all.add(List.of());
-        for (int k = 0; k < n; k++) {
-            List<List<Integer>> longer = new ArrayList<>();
-            for (List<Integer> some : all) {
-                for (int v = 0; v < n; v++) {
-                    List<Integer> more = new ArrayList<>(some);
-                    more.add(v);
-                    longer.add(more);
-                }
-            }
-            all = longer;
-        }
-        return all;
-    }
-
-    private static int[] ints(List<Integer> some) {
-        return some.stream().mapToInt(v -> v).toArray();
-    }
-
     // ---- TABLES
 
     private static void tablesOfAllShapes() {
@@ -493,6 +471,15 @@ public final class IndexBoundaryTest extends Cases {
         due("put(47, 47)", x.put(47, 47), 1);
         due("it was MIN", x.asked(), MIN);
         due("least(0, 47) then", x.least(0, 47), 0);
+        for (int b = 1; b <= 6; b++) {
+            ShapeMinima y = withItems(b, 5, 6, 7, 8, 9, 10, 11);
+            for (int i = 0; i < 7; i++) {
+                y.put(i, 20 - i);
+            }
+            sameItems("by " + b, y, 20, 19, 18, 17, 16, 15, 14);
+            y.undo();
+            sameItems("by " + b + ", one undone", y, 20, 19, 18, 17, 16, 15, 11);
+        }
     }
 
     private static void putAnotherShape() {

@@ -24,6 +24,8 @@ public final class LanguageTest {
         "throw", "throws", "try", "catch", "finally", "synchronized", "assert", "double", "float", "->", "::", "System\\.(?!arraycopy)",
         "Exact", "protected", "hashCode", "equals", "toString", "package", "Thread", "Random", "Object"};
 
+    private static final Pattern METHOD_HEAD = Pattern.compile("^( {4}| {8})(?!if|for|while|switch)\\w.*\\) \\{$");
+
     private LanguageTest() {
     }
 
@@ -31,7 +33,10 @@ public final class LanguageTest {
         Expect expect = new Expect();
         face(expect);
         classesInside(expect);
-        words(expect, withoutComments(Files.readString(Path.of(args[0]))));
+        String source = Files.readString(Path.of(args[0]));
+        words(expect, withoutComments(source));
+        methodsAreShort(expect, source.split("\n"));
+        objectsAreMadeInConstructors(expect, withoutComments(source).split("\n"));
         expect.end();
     }
 
@@ -107,6 +112,34 @@ public final class LanguageTest {
         for (char sign : code.toCharArray()) {
             if (sign > 126) {
                 expect.holds("plain signs alone", false);
+            }
+        }
+    }
+
+    /** A method's last line is the first brace that stands as far in as its head. */
+    private static void methodsAreShort(Expect expect, String[] lines) {
+        for (int from = 0; from < lines.length; from++) {
+            Matcher m = METHOD_HEAD.matcher(lines[from]);
+            if (m.matches()) {
+                int to = from;
+                while (to < lines.length && !lines[to].equals(m.group(1) + "}")) {
+                    to++;
+                }
+                expect.holds("at most sixty lines: " + lines[from].strip(), to - from < 60);
+            }
+        }
+    }
+
+    /** So that no run of calls can fill the room that all runs share. */
+    private static void objectsAreMadeInConstructors(Expect expect, String[] lines) {
+        Pattern constructor = Pattern.compile("^ +(public )?[A-Z]\\w*\\(\\) \\{$");
+        String inside = "";
+        for (String line : lines) {
+            if (METHOD_HEAD.matcher(line).matches()) {
+                inside = line;
+            }
+            if (Pattern.compile("\\bnew\\b|\\.clone\\(|copyOf").matcher(line).find()) {
+                expect.holds("made in a constructor: " + line.strip(), constructor.matcher(inside).matches());
             }
         }
     }

@@ -1,4 +1,5 @@
 import java.util.Arrays;
+import java.util.List;
 import java.util.function.IntFunction;
 import java.util.function.ToLongFunction;
 
@@ -32,6 +33,7 @@ public final class LeastBoundaryTest extends Cases {
         sumOfOne();
         parentOfTheOneAboveAll();
         parentOfLikeOnes();
+        allShortItems();
         depthsFromNoneToAll();
         sizesFromOneToAll();
         aboveByNone();
@@ -325,6 +327,39 @@ public final class LeastBoundaryTest extends Cases {
         each("parent of 2 1 2", y::parent, 1, NONE, 1);
         ShapeMinima far = withItems(2, MIN, MAX, 0);
         each("parent of MIN MAX 0", far::parent, NONE, 2, 0);
+        ShapeMinima first = withItems(2, 1, 2, 0);
+        each("parent of 1 2 0, the nearer to it the first place", first::parent, 2, 0, NONE);
+        ShapeMinima last = withItems(2, 0, 2, 1);
+        each("parent of 0 2 1, the nearer to it the last place", last::parent, NONE, 2, 0);
+    }
+
+    private static void allShortItems() {
+        sentence("THE TREE over the items; LEFT; RIGHT; OWNS; SUM (of all short items)");
+        for (int n = 1; n <= 5; n++) {
+            for (List<Integer> some : allOf(n)) {
+                ShapeMinima x = withItems(2, ints(some));
+                Model model = modelOf(some);
+                for (int i = 0; i < n; i++) {
+                    due("left(" + i + ") of " + some, x.left(i), model.left(i));
+                    due("right(" + i + ") of " + some, x.right(i), model.right(i));
+                    due("owns(" + i + ") of " + some, x.owns(i), model.owns(i));
+                    due("parent(" + i + ") of " + some, x.parent(i), model.parent(i));
+                    due("depth(" + i + ") of " + some, x.depth(i), model.depth(i));
+                    due("size(" + i + ") of " + some, x.size(i), model.size(i));
+                }
+                due("sum() of " + some, x.sum(), model.sum());
+            }
+        }
+    }
+
+    private static Model modelOf(List<Integer> some) {
+        Model model = new Model();
+        model.row(0, some.size());
+        for (int i = 0; i < some.size(); i++) {
+            model.lay(0, i, some.get(i));
+        }
+        model.build(0, 2);
+        return model;
     }
 
     private static void depthsFromNoneToAll() {
