@@ -4,7 +4,9 @@ import java.lang.reflect.Method;
 import java.lang.reflect.Modifier;
 import java.nio.file.Files;
 import java.nio.file.Path;
+import java.util.HashMap;
 import java.util.HashSet;
+import java.util.Map;
 import java.util.Set;
 import java.util.TreeSet;
 import java.util.regex.Matcher;
@@ -24,6 +26,10 @@ public final class LanguageTest {
         "throw", "throws", "try", "catch", "finally", "synchronized", "assert", "double", "float", "->", "::", "System\\.(?!arraycopy)",
         "Exact", "protected", "hashCode", "equals", "toString", "package", "Thread", "Random", "Object"};
 
+    private static final Set<String> LIBRARY = Set.of(
+        "Arrays.fill", "Integer.bitCount", "Math.max", "Math.min", "System.arraycopy");
+    private static final int DEEPEST = 8;
+
     private static final Pattern METHOD_HEAD = Pattern.compile("^( {4}| {8})(?!if|for|while|switch)\\w.*\\) \\{$");
 
     private LanguageTest() {
@@ -35,6 +41,8 @@ public final class LanguageTest {
         classesInside(expect);
         String source = Files.readString(Path.of(args[0]));
         words(expect, withoutComments(source));
+        library(expect, withoutComments(source));
+        callsGoNotDeep(expect, withoutComments(source).split("\n"));
         methodsAreShort(expect, source.split("\n"));
         objectsAreMadeInConstructors(expect, withoutComments(source).split("\n"));
         expect.end();
@@ -56,6 +64,7 @@ public final class LanguageTest {
             expect.holds("no public name for " + m, !Modifier.isPrivate(m.getModifiers()) || !publicNames.contains(m.getName()));
         }
         expect.holds("the face is the document's: " + methods, methods.equals(new TreeSet<>(java.util.List.of(FACE))));
+        fewParametersAndFields(expect, c);
         Constructor<?>[] constructors = c.getDeclaredConstructors();
         expect.holds("one public constructor", constructors.length == 1 && constructors[0].getParameterCount() == 0
             && Modifier.isPublic(constructors[0].getModifiers()));
@@ -87,11 +96,24 @@ public final class LanguageTest {
         for (Class<?> c : inside) {
             expect.holds("static: " + c, Modifier.isStatic(c.getModifiers()));
             expect.holds("not public: " + c, (c.getModifiers() & (Modifier.PUBLIC | Modifier.PROTECTED)) == 0);
-            expect.holds("at most twenty fields: " + c, c.getDeclaredFields().length <= 20);
+            fewParametersAndFields(expect, c);
             for (Method m : c.getDeclaredMethods()) {
-                expect.holds("at most seven parameters: " + m, m.getParameterCount() <= 7);
                 expect.holds("no name of the face: " + m, !publicNames.contains(m.getName()));
             }
+        }
+    }
+
+    private static void fewParametersAndFields(Expect expect, Class<?> c) {
+        int fields = 0;
+        for (Field f : c.getDeclaredFields()) {
+            if (!Modifier.isStatic(f.getModifiers())) {
+                fields++;
+            }
+            expect.holds("static is a number alone: " + f, !Modifier.isStatic(f.getModifiers()) || f.getType() == int.class);
+        }
+        expect.holds("at most twenty fields: " + c, fields <= 20);
+        for (Method m : c.getDeclaredMethods()) {
+            expect.holds("at most seven parameters: " + m, m.getParameterCount() <= 7);
         }
     }
 
@@ -114,6 +136,51 @@ public final class LanguageTest {
                 expect.holds("plain signs alone", false);
             }
         }
+    }
+
+    /** What is called of a class by its name: the library's, or a class's own inside. */
+    private static void library(Expect expect, String code) {
+        Set<String> own = new HashSet<>();
+        for (Class<?> c : ShapeMinima.class.getDeclaredClasses()) {
+            own.add(c.getSimpleName());
+        }
+        Matcher m = Pattern.compile("\\b([A-Z]\\w*)\\.(\\w+)\\(").matcher(code);
+        while (m.find()) {
+            String call = m.group(1) + "." + m.group(2);
+            expect.holds("in the library's list: " + call, own.contains(m.group(1)) || LIBRARY.contains(call));
+        }
+    }
+
+    /** Methods of one name count as one, so what is seen may be deeper than what is there, not less. */
+    private static void callsGoNotDeep(Expect expect, String[] lines) {
+        Pattern named = Pattern.compile("\\b(\\w+)\\(");
+        Map<String, Set<String>> calls = new HashMap<>();
+        String inside = "";
+        for (String line : lines) {
+            Matcher m = named.matcher(line);
+            if (METHOD_HEAD.matcher(line).matches() && m.find()) {
+                inside = m.group(1);
+                calls.putIfAbsent(inside, new TreeSet<>());
+            }
+            while (!inside.isEmpty() && m.find()) {
+                calls.get(inside).add(m.group(1));
+            }
+        }
+        expect.holds("the methods were found", calls.size() > FACE.length);
+        for (String method : calls.keySet()) {
+            expect.holds("at most eight deep, no recursion: " + method, depth(calls, method, 0) <= DEEPEST);
+        }
+    }
+
+    private static int depth(Map<String, Set<String>> calls, String method, int above) {
+        if (!calls.containsKey(method) || above > DEEPEST) {
+            return 0;
+        }
+        int deepest = 0;
+        for (String called : calls.get(method)) {
+            deepest = Math.max(deepest, depth(calls, called, above + 1));
+        }
+        return 1 + deepest;
     }
 
     /** A method's last line is the first brace that stands as far in as its head. */

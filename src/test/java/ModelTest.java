@@ -69,6 +69,7 @@ public final class ModelTest {
             int kind = random.nextInt(40);
             if (kind == 0) calls += fillRow();
             else if (kind == 1) calls += tellTree();
+            else if (kind == 2) calls += putAndUndo();
             else calls += oneCall(random.nextInt(34));
             told();
             calls += 3;
@@ -93,6 +94,22 @@ public final class ModelTest {
         int b = 1 + random.nextInt(6);
         due("build", real.build(r, b), model.build(r, b));
         return n + 2;
+    }
+
+    /** More puts than are known, then some of them undone, perhaps once too often. */
+    private int putAndUndo() {
+        int puts = 8 + random.nextInt(6);
+        int undos = random.nextInt(13);
+        for (int k = 0; k < puts; k++) {
+            int i = num(items()), v = value();
+            due("put(" + i + ", " + v + ")", real.put(i, v), model.put(i, v));
+        }
+        due("count(7)", real.count(7), model.count(7));
+        for (int k = 0; k < undos; k++) {
+            due("undo()", real.undo(), model.undo());
+            due("digest()", real.digest(), model.digest());
+        }
+        return puts + 1 + 2 * undos;
     }
 
     private int tellTree() {

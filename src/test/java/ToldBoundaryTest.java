@@ -1,3 +1,5 @@
+import java.util.function.ToLongFunction;
+
 /** The boundary cases of what is told: promises 31 to 35. */
 public final class ToldBoundaryTest extends Cases {
     private ToldBoundaryTest() {
@@ -16,6 +18,7 @@ public final class ToldBoundaryTest extends Cases {
         findingBefore();
         findingLatest();
         findingOfOtherRefusals();
+        findingOfWhatIsNotRefused();
         findingsOfEach();
         findingsRefused();
         digestOfANewObject();
@@ -214,6 +217,55 @@ public final class ToldBoundaryTest extends Cases {
         x.node(0, 3);
         due("finding()", x.finding(), BEYOND);
         due("findings(2)", x.findings(BEYOND), 2);
+    }
+
+    private static void findingStays(String call, ToLongFunction<ShapeMinima> taken) {
+        ShapeMinima x = ready();
+        // IMAGE 1 for on(1); SIZE, so that the latest one is neither the first nor the last of them.
+        x.keep(1);
+        x.row(0, -1);
+        due(call + " is not refused", taken.applyAsLong(x) == FINDING ? 1 : 0, 0);
+        due(call + ", finding()", x.finding(), SIZE);
+        for (int f = 1; f <= 4; f++) {
+            due(call + ", findings(" + f + ")", x.findings(f), f == SIZE ? 2 : 1);
+        }
+    }
+
+    private static void findingOfWhatIsNotRefused() {
+        sentence("The latest FINDING (what is not refused leaves it)");
+        findingStays("row", x -> x.row(1, 4));
+        findingStays("lay", x -> x.lay(0, 10, 4));
+        findingStays("at", x -> x.at(0, 10));
+        findingStays("tear", x -> x.tear(3));
+        findingStays("copy", x -> x.copy(0, 0, 2, 0, 10));
+        findingStays("build", x -> x.build(2, 4));
+        findingStays("put", x -> x.put(10, 4));
+        findingStays("undo", x -> x.undo());
+        findingStays("keep", x -> x.keep(0));
+        findingStays("on", x -> x.on(1));
+        findingStays("item", x -> x.item(10));
+        findingStays("shape", x -> x.shape(3));
+        findingStays("entry", x -> x.entry(27, 0, 2));
+        findingStays("least", x -> x.least(0, 10));
+        findingStays("kth", x -> x.kth(0, 10, 10));
+        findingStays("left, NONE", x -> x.left(0));
+        findingStays("right, NONE", x -> x.right(10));
+        findingStays("owns", x -> x.owns(10));
+        findingStays("sum", x -> x.sum());
+        findingStays("parent, NONE", x -> x.parent(6));
+        findingStays("depth", x -> x.depth(10));
+        findingStays("size", x -> x.size(10));
+        findingStays("above, NONE", x -> x.above(10, 9));
+        findingStays("alike", x -> x.alike(0, 9, 2));
+        findingStays("tree", x -> x.tree(2));
+        findingStays("meet", x -> x.meet(0, 9));
+        findingStays("apart", x -> x.apart(0, 9));
+        findingStays("up, NONE", x -> x.up(0, 9));
+        findingStays("node", x -> x.node(9, 2));
+        findingStays("asked", x -> x.asked());
+        findingStays("count", x -> x.count(9));
+        findingStays("findings", x -> x.findings(4));
+        findingStays("digest", x -> x.digest());
     }
 
     private static void findingsOfEach() {

@@ -127,6 +127,9 @@ public final class TreeBoundaryTest extends Cases {
         isUnlike("-1 -2", -1, -2);
         isUnlike("-1 MIN", -1, MIN);
         isUnlike("-1 MAX", -1, MAX);
+        isUnlike("-2 0, one below it", -2, 0);
+        isUnlike("1 MIN, one below it", 1, MIN);
+        isUnlike("-3 0 1, two below it", -3, 0, 1);
         isUnlike("-1 0 3", -1, 0, 3);
         isUnlike("3 -1 1", 3, -1, 1);
         int[] parents = line(24);
